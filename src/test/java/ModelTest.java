@@ -112,7 +112,7 @@ public final class ModelTest {
             () -> layout.redraw(rounds, tolerance), () -> model.redraw(rounds, tolerance));
     }
 
-    private void two(String name, int p, int q, boolean told) {
+    private void two(String name, int p, int q) {
         String call = name + "(" + p + ", " + q + ")";
         switch (name) {
             case "at" -> due(call, () -> layout.at(p, q), () -> model.at(p, q));
@@ -136,9 +136,9 @@ public final class ModelTest {
 
     private void ask() {
         switch (random.nextInt(6)) {
-            case 0 -> two("at", near(0, 15), near(0, 2), true);
-            case 1 -> two("item", near(0, 9), near(0, 12), true);
-            case 2 -> two("between", near(0, 9), near(0, 1), true);
+            case 0 -> two("at", near(0, 15), near(0, 2));
+            case 1 -> two("item", near(0, 9), near(0, 12));
+            case 2 -> two("between", near(0, 9), near(0, 1));
             case 3 -> piece(near(0, 23), near(0, 9), near(0, 2));
             case 4 -> count(near(0, 7));
             default -> reversed(near(0, 23));
@@ -152,16 +152,16 @@ public final class ModelTest {
         }
         for (int id = 0; id < 16; id++) {
             for (int what = 0; what < 3; what++) {
-                two("at", id, what, true);
+                two("at", id, what);
             }
         }
         int layers = Math.max(model.count(3), 1);
         for (int layer = -1; layer <= layers; layer++) {
-            two("between", layer, 0, true);
-            two("between", layer, 1, true);
+            two("between", layer, 0);
+            two("between", layer, 1);
             for (int place = -1; place == -1 || model.item(layer, place) >= 0; place++) {
-                two("item", layer, place, true);
-                two("item", layer, place + 1, true);
+                two("item", layer, place);
+                two("item", layer, place + 1);
             }
         }
         for (int a = 0; a < 24; a++) {
