@@ -1010,7 +1010,6 @@ public final class RouteLayout {
             if (count == 0) {
                 return xOf(layer, code);
             }
-            // While the passes go, a middle may be left of 0, where a plain division goes up.
             return Math.floorDiv(sum, count) - net.widthOf(code) / 2;
         }
 

@@ -303,6 +303,33 @@ public final class PromisesTest {
         due("between(0, 0)", y.between(0, 0), 11);
     }
 
+    /**
+     * Box 6 has upper neighbours at places 0, 3 and 4, box 7 at 1, 2 and 5. By medians 7 would come ahead
+     * of 6, with 5 crossings in place of 4: all stays, and layer 0 is ordered by 6 ahead of 7.
+     */
+    private static void drawRefusedStep() {
+        promise = "promise 7, a step that makes more crossings";
+        RouteLayout x = boxes(8, 4);
+        arrows(x, 0, 6, 3, 6, 4, 6, 1, 7, 2, 7, 5, 7);
+        x.draw(0);
+        due("between(0, 0) without rounds", x.between(0, 0), 4);
+        x.draw(1);
+        dueRow(x, 0, 0, 3, 4, 1, 2, 5);
+        dueRow(x, 1, 6, 7);
+        due("between(0, 0) with a round", x.between(0, 0), 0);
+    }
+
+    /** Layer 1 is ordered ahead of layer 2: boxes 4 and 5 find 3 ahead of 2, and stay. */
+    private static void drawFromAbove() {
+        promise = "promise 7, at last from layer 1 on";
+        RouteLayout x = boxes(6, 4);
+        arrows(x, 0, 3, 1, 2, 3, 4, 2, 5);
+        x.draw(0);
+        dueRow(x, 1, 3, 2);
+        dueRow(x, 2, 4, 5);
+        due("count(5)", x.count(5), 0);
+    }
+
     private static RouteLayout crossed() {
         RouteLayout x = boxes(4, 4);
         arrows(x, 0, 2, 1, 3);
@@ -445,6 +472,30 @@ public final class PromisesTest {
         due("piece(1, 0, 2)", x.piece(1, 0, 2), 0);
     }
 
+    /**
+     * Boxes 0, that has no arrows, and 1 above boxes 2 and 3, all 1 wide. Pass 1: 2 and 3 get 5 and 10.
+     * Pass 2: box 1 gets 15 / 2 = 7. Pass 3: 7 and 12. Pass 4: box 1 gets 9. Box 0 stays at 0.
+     */
+    private static void fourPasses() {
+        promise = "promise 9, four passes";
+        RouteLayout x = boxes(4, 1);
+        arrows(x, 1, 2, 1, 3);
+        x.draw(0);
+        due("at(0, 2)", x.at(0, 2), 0);
+        due("at(1, 2)", x.at(1, 2), 9);
+        due("at(2, 2)", x.at(2, 2), 7);
+        due("at(3, 2)", x.at(3, 2), 12);
+        // Box 1 (20 wide) goes 10 to the left, below box 0; box 2, without neighbours, stays at 24.
+        RouteLayout y = boxes(3, 1);
+        y.box(1, 20);
+        y.pin(2, 1);
+        y.arrow(0, 0, 1);
+        y.draw(0);
+        due("at(0, 2)", y.at(0, 2), 10);
+        due("at(1, 2)", y.at(1, 2), 0);
+        due("at(2, 2)", y.at(2, 2), 34);
+    }
+
     private static void reversed() {
         promise = "promise 10";
         RouteLayout x = boxes(4, 4);
@@ -462,6 +513,9 @@ public final class PromisesTest {
         due("at(3, 0)", x.at(3, 0), 3);
         // Arrows are taken by their numbers, not as they came: arrow 4 makes arrow 5 the reversed one, and
         // arrow 7, that closed a cycle with it, is kept then.
+        RouteLayout z = boxes(4, 4);
+        arrows(z, 1, 2, 2, 3, 0, 1, 3, 0);
+        due("reversed(3), by a chain that was joined from behind", z.reversed(3), 1);
         RouteLayout y = boxes(3, 4);
         y.arrow(5, 0, 1);
         y.arrow(7, 1, 0);
@@ -620,12 +674,15 @@ public final class PromisesTest {
         drawWide();
         drawTies();
         drawSteps();
+        drawRefusedStep();
+        drawFromAbove();
         redraw();
         redrawWithoutOld();
         redrawContradicted();
         redrawOthers();
         at();
         passes();
+        fourPasses();
         reversed();
         item();
         piece();
