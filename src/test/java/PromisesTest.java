@@ -1,76 +1,7 @@
 /** Each promise of the document on small drawings whose answers were worked out by hand. */
-public final class PromisesTest {
-    private static final int LOW = Integer.MIN_VALUE;
-    private static final int HIGH = Integer.MAX_VALUE;
-    private static int wrong = 0;
-    private static String promise = "";
-
-    private interface Call {
-        void run();
-    }
-
-    private static void due(String call, long got, long want) {
-        if (got != want) {
-            wrong++;
-            System.out.println(promise + ": " + call + " answered " + got + ", due is " + want);
-        }
-    }
-
-    private static void due(String call, boolean got, boolean want) {
-        due(call, got ? 1 : 0, want ? 1 : 0);
-    }
-
-    private static void refused(String call, Call made) {
-        String answer = "nothing";
-        try {
-            made.run();
-        } catch (RuntimeException e) {
-            answer = e.getClass().getName();
-        }
-        if (!answer.equals("java.lang.IllegalArgumentException")) {
-            wrong++;
-            System.out.println(promise + ": " + call + " threw " + answer + ", due is IllegalArgumentException");
-        }
-    }
-
-    /** Boxes 0, 1, .. of one width. */
-    private static RouteLayout boxes(int count, int width) {
-        RouteLayout x = new RouteLayout();
-        for (int id = 0; id < count; id++) {
-            x.box(id, width);
-        }
-        return x;
-    }
-
-    /** Arrows 0, 1, .. between the boxes of the pairs. */
-    private static void arrows(RouteLayout x, int... ends) {
-        for (int k = 0; k + 1 < ends.length; k += 2) {
-            x.arrow(k / 2, ends[k], ends[k + 1]);
-        }
-    }
-
-    private static void dueRow(RouteLayout x, int layer, int... items) {
-        for (int place = 0; place < items.length; place++) {
-            due("item(" + layer + ", " + place + ")", x.item(layer, place), items[place]);
-        }
-        due("item(" + layer + ", " + items.length + ")", x.item(layer, items.length), -1);
-    }
-
-    private static void dueUntold(RouteLayout x) {
-        for (int what = 3; what <= 7; what++) {
-            due("count(" + what + ")", x.count(what), -1);
-        }
-        for (int what = 0; what <= 2; what++) {
-            due("at(0, " + what + ")", x.at(0, what), -1);
-            due("piece(0, 0, " + what + ")", x.piece(0, 0, what), -1);
-        }
-        due("item(0, 0)", x.item(0, 0), -1);
-        due("between(0, 0)", x.between(0, 0), -1);
-        due("between(0, 1)", x.between(0, 1), -1);
-    }
-
+public final class PromisesTest extends Answers {
     private static void newObject() {
-        promise = "promise 1";
+        by("promise 1");
         RouteLayout x = new RouteLayout();
         due("count(0)", x.count(0), 0);
         due("count(1)", x.count(1), 0);
@@ -84,7 +15,7 @@ public final class PromisesTest {
     }
 
     private static void box() {
-        promise = "promise 2";
+        by("promise 2");
         RouteLayout x = new RouteLayout();
         x.box(0, 1);
         x.box(15, 50);
@@ -110,7 +41,7 @@ public final class PromisesTest {
     }
 
     private static void remove() {
-        promise = "promise 3";
+        by("promise 3");
         RouteLayout x = boxes(3, 4);
         arrows(x, 0, 1, 1, 2, 2, 0, 0, 2);
         x.pin(1, 2);
@@ -137,7 +68,7 @@ public final class PromisesTest {
     }
 
     private static void arrow() {
-        promise = "promise 4";
+        by("promise 4");
         RouteLayout x = boxes(4, 4);
         x.arrow(0, 0, 1);
         x.arrow(23, 1, 2);
@@ -161,7 +92,7 @@ public final class PromisesTest {
     }
 
     private static void drop() {
-        promise = "promise 5";
+        by("promise 5");
         RouteLayout x = boxes(2, 4);
         arrows(x, 0, 1, 1, 0);
         x.draw(0);
@@ -179,7 +110,7 @@ public final class PromisesTest {
     }
 
     private static void pin() {
-        promise = "promise 6";
+        by("promise 6");
         RouteLayout x = boxes(3, 4);
         arrows(x, 0, 1, 1, 2);
         x.pin(1, 8);
@@ -210,7 +141,7 @@ public final class PromisesTest {
 
     /** The longest chain there is: a box in layer 8 and fifteen behind it. */
     private static void deepest() {
-        promise = "promise 6, the deepest layers";
+        by("promise 6, the deepest layers");
         RouteLayout x = boxes(16, 50);
         for (int a = 0; a < 15; a++) {
             x.arrow(14 - a, a, a + 1);
@@ -233,7 +164,7 @@ public final class PromisesTest {
 
     /** Layers, dummies and the order at last. */
     private static void draw() {
-        promise = "promise 7";
+        by("promise 7");
         RouteLayout x = boxes(4, 4);
         for (int rounds : new int[] {-1, 5, LOW, HIGH}) {
             refused("draw(" + rounds + ")", () -> x.draw(rounds));
@@ -252,7 +183,7 @@ public final class PromisesTest {
     }
 
     private static void drawWide() {
-        promise = "promise 7, exact up to six items";
+        by("promise 7, exact up to six items");
         for (int n = 6; n <= 7; n++) {
             RouteLayout x = boxes(2 * n, 4);
             for (int k = 0; k < n; k++) {
@@ -269,7 +200,7 @@ public final class PromisesTest {
 
     /** Boxes 0 and 1 above 2 .. 5: where crossings are the same, those that stood ahead come first. */
     private static void drawTies() {
-        promise = "promise 7, the first one of several orders";
+        by("promise 7, the first one of several orders");
         RouteLayout x = boxes(6, 4);
         arrows(x, 1, 2, 0, 3, 1, 4, 0, 5);
         x.draw(0);
@@ -286,7 +217,7 @@ public final class PromisesTest {
      * others (8 .. 13) are ordered by medians among themselves.
      */
     private static void drawSteps() {
-        promise = "promise 7, steps";
+        by("promise 7, steps");
         RouteLayout x = boxes(14, 4);
         arrows(x, 0, 13, 1, 12, 2, 11, 3, 10, 4, 9, 5, 8);
         x.pin(7, 1);
@@ -308,7 +239,7 @@ public final class PromisesTest {
      * of 6, with 5 crossings in place of 4: all stays, and layer 0 is ordered by 6 ahead of 7.
      */
     private static void drawRefusedStep() {
-        promise = "promise 7, a step that makes more crossings";
+        by("promise 7, a step that makes more crossings");
         RouteLayout x = boxes(8, 4);
         arrows(x, 0, 6, 3, 6, 4, 6, 1, 7, 2, 7, 5, 7);
         x.draw(0);
@@ -321,7 +252,7 @@ public final class PromisesTest {
 
     /** Layer 1 is ordered ahead of layer 2: boxes 4 and 5 find 3 ahead of 2, and stay. */
     private static void drawFromAbove() {
-        promise = "promise 7, at last from layer 1 on";
+        by("promise 7, at last from layer 1 on");
         RouteLayout x = boxes(6, 4);
         arrows(x, 0, 3, 1, 2, 3, 4, 2, 5);
         x.draw(0);
@@ -339,7 +270,7 @@ public final class PromisesTest {
     }
 
     private static void redraw() {
-        promise = "promise 8";
+        by("promise 8");
         RouteLayout x = crossed();
         for (int wrongOne : new int[] {-1, LOW, HIGH}) {
             refused("redraw(" + wrongOne + ", 0)", () -> x.redraw(wrongOne, 0));
@@ -360,7 +291,7 @@ public final class PromisesTest {
     }
 
     private static void redrawWithoutOld() {
-        promise = "promise 8, without OLD";
+        by("promise 8, without OLD");
         due("redraw(0, 0) without boxes", new RouteLayout().redraw(0, 0), 0);
         RouteLayout x = boxes(4, 4);
         arrows(x, 0, 3, 1, 2);
@@ -373,7 +304,7 @@ public final class PromisesTest {
     }
 
     private static void redrawContradicted() {
-        promise = "promise 8, OLD stays";
+        by("promise 8, OLD stays");
         RouteLayout x = crossed();
         x.draw(0);
         dueRow(x, 1, 3, 2);
@@ -390,7 +321,7 @@ public final class PromisesTest {
     }
 
     private static void redrawOthers() {
-        promise = "promise 8, others behind those of OLD";
+        by("promise 8, others behind those of OLD");
         RouteLayout x = new RouteLayout();
         for (int id : new int[] {1, 3, 5, 6}) {
             x.box(id, 4);
@@ -424,7 +355,7 @@ public final class PromisesTest {
     }
 
     private static void at() {
-        promise = "promise 9";
+        by("promise 9");
         RouteLayout x = boxes(2, 10);
         x.box(1, 50);
         x.arrow(0, 0, 1);
@@ -454,7 +385,7 @@ public final class PromisesTest {
      * middle 10. Pass 4: box 0 wants 8, box 1 gets 17. All get less by -5.
      */
     private static void passes() {
-        promise = "promise 9, passes";
+        by("promise 9, passes");
         RouteLayout x = new RouteLayout();
         x.box(0, 5);
         x.box(1, 2);
@@ -477,7 +408,7 @@ public final class PromisesTest {
      * Pass 2: box 1 gets 15 / 2 = 7. Pass 3: 7 and 12. Pass 4: box 1 gets 9. Box 0 stays at 0.
      */
     private static void fourPasses() {
-        promise = "promise 9, four passes";
+        by("promise 9, four passes");
         RouteLayout x = boxes(4, 1);
         arrows(x, 1, 2, 1, 3);
         x.draw(0);
@@ -497,7 +428,7 @@ public final class PromisesTest {
     }
 
     private static void reversed() {
-        promise = "promise 10";
+        by("promise 10");
         RouteLayout x = boxes(4, 4);
         arrows(x, 0, 1, 1, 0, 1, 2, 2, 0, 2, 3, 3, 0, 0, 3);
         for (int a : new int[] {-1, 24, LOW, HIGH}) {
@@ -528,7 +459,7 @@ public final class PromisesTest {
     }
 
     private static void item() {
-        promise = "promise 11";
+        by("promise 11");
         RouteLayout x = boxes(4, 4);
         arrows(x, 0, 1, 1, 2);
         x.arrow(23, 0, 2);
@@ -546,7 +477,7 @@ public final class PromisesTest {
 
     /** Arrow 2 and the reversed arrow 3 pass by box 3 on their way from box 0 to box 4. */
     private static void piece() {
-        promise = "promise 12";
+        by("promise 12");
         RouteLayout x = boxes(5, 4);
         arrows(x, 0, 3, 3, 4, 0, 4, 4, 0);
         for (int a : new int[] {-1, 24, LOW, HIGH}) {
@@ -575,7 +506,7 @@ public final class PromisesTest {
     }
 
     private static void between() {
-        promise = "promise 13";
+        by("promise 13");
         RouteLayout x = boxes(8, 4);
         arrows(x, 0, 4, 0, 5, 1, 4, 1, 5, 2, 6, 3, 7);
         for (int what : new int[] {-1, 2, LOW, HIGH}) {
@@ -600,7 +531,7 @@ public final class PromisesTest {
      * touch and need two tracks.
      */
     private static void touching() {
-        promise = "promise 13, tracks that touch";
+        by("promise 13, tracks that touch");
         RouteLayout x = boxes(4, 1);
         x.box(0, 9);
         arrows(x, 0, 3, 0, 2, 0, 1);
@@ -619,7 +550,7 @@ public final class PromisesTest {
      * by 3: middles 0 and 5 below 3.
      */
     private static void sameLeftEnds() {
-        promise = "promise 12, parts with the same left end";
+        by("promise 12, parts with the same left end");
         RouteLayout x = boxes(3, 1);
         arrows(x, 0, 2, 0, 1, 0, 2);
         x.draw(0);
@@ -634,7 +565,7 @@ public final class PromisesTest {
     }
 
     private static void count() {
-        promise = "promise 14";
+        by("promise 14");
         RouteLayout x = new RouteLayout();
         x.draw(4);
         for (int what = 0; what <= 7; what++) {
@@ -690,9 +621,6 @@ public final class PromisesTest {
         touching();
         sameLeftEnds();
         count();
-        System.out.println(wrong == 0 ? "all answers are as due" : wrong + " answers are not as due");
-        if (wrong != 0) {
-            System.exit(1);
-        }
+        end();
     }
 }
