@@ -379,6 +379,36 @@ public final class AnswersEdgesTest extends Answers {
         due("count(7)", x.count(7), Math.max(x.between(0, 1), x.between(1, 1)));
     }
 
+    /** What the drawing before had between layers that are not there any more isn't told. */
+    private static void fewerLayers() {
+        by("Promise 14: the most tracks between two layers, behind a drawing with more layers");
+        RouteLayout x = boxes(4, 10);
+        arrows(x, 0, 1, 1, 2, 1, 3);
+        x.draw(0);
+        due("between(0, 1)", x.between(0, 1), 0);
+        due("between(1, 1)", x.between(1, 1), 2);
+        due("count(7)", x.count(7), 2);
+        x.remove(2);
+        x.remove(3);
+        x.draw(0);
+        due("between(1, 1)", x.between(1, 1), -1);
+        due("count(7) of two layers", x.count(7), 0);
+        RouteLayout y = fork();
+        y.draw(0);
+        due("count(7) of a fork", y.count(7), 2);
+        y.drop(0);
+        y.drop(1);
+        y.draw(0);
+        due("count(7) of one layer", y.count(7), 0);
+        due("count(5) of one layer", y.count(5), 0);
+        y.remove(0);
+        y.remove(1);
+        y.remove(2);
+        y.draw(0);
+        due("count(7) without layers", y.count(7), 0);
+        due("count(6) without items", y.count(6), 0);
+    }
+
     public static void main(String[] args) {
         atWhats();
         atNotThere();
@@ -401,6 +431,7 @@ public final class AnswersEdgesTest extends Answers {
         betweenRefused();
         counts();
         inAll();
+        fewerLayers();
         end();
     }
 }
