@@ -1122,7 +1122,7 @@ public final class RouteLayout {
 
         private void giveTrack(int a, int layer) {
             int track = 0;
-            while (track < totals[layer] && ends[track] >= lefts[a]) {
+            while (track < ARROWS && track < totals[layer] && ends[track] >= lefts[a]) {
                 track++;
             }
             if (track >= ARROWS) {
